@@ -91,13 +91,21 @@ public final class GraphTest {
         Kit.due("11: one edge", g.flow(3, 4), 6);
         Kit.due("11: no way", g.flow(0, 4), 0);
         Kit.due("11: the same", g.flow(2, 2), 0);
-        Kit.refuses("11: vertex 5", Kit.INDEX, g, () -> g.flow(5, 5));
+        Kit.refuses("11: vertex 5", Kit.INDEX, g, () -> g.flow(5, 0));
+        Kit.refuses("11: vertex -1", Kit.INDEX, g, () -> g.flow(-1, 0));
+        Kit.refuses("11: both", Kit.INDEX, g, () -> g.flow(5, 5));
         Kit.refuses("11: other -1", Kit.INDEX, g, () -> g.flow(0, -1));
         // The first way s a d t takes what the ways s a c t and s b d t need.
         ShareGraph h = Kit.read("vertex s 1;vertex a 1;vertex b 1;vertex c 1;vertex d 1;vertex t 1;"
             + "edge s a 2;edge a d 2;edge d t 2;edge s b 2;edge b d 1;edge a c 1;edge c t 2;");
         Kit.due("11: ways that share edges", h.flow(0, 5), 3);
         Kit.due("11: the part of a vertex is nothing to it", moved(h).flow(0, 5), 3);
+        // The short way s a d t must give way: in the end more goes from d to a than the edge had room for at first.
+        ShareGraph back = Kit.read("vertex s 1;vertex a 1;vertex b 1;vertex c 1;vertex d 1;vertex e 1;vertex f 1;"
+            + "vertex t 1;edge s a 1;edge a d 1;edge d t 1;edge a c 2;edge c e 2;edge e t 2;edge s b 2;edge b f 2;"
+            + "edge f d 2;");
+        Kit.due("11: a way that turns another one back", back.flow(0, 7), 3);
+        Kit.due("11: and from the other end", back.flow(7, 0), 3);
     }
 
     private static ShareGraph moved(ShareGraph g) {

@@ -106,6 +106,8 @@ public final class GroupsTest {
             + "edge a b 9;edge a c 8;edge a d 1;edge b d 2;");
         Kit.due("25: weight 7 of 6 is too much, 6 is not", heavy.mate(0), 2);
         Kit.due("25: b and d", heavy.mate(1), 3);
+        ShareGraph turned = Kit.read(five + "edge c a 2;edge b a 1;edge e b 3;edge d b 4;");
+        Kit.due("25: edges told from behind", turned.mate(0) * 10 + turned.mate(1), 23);
         ShareGraph one = Kit.read(five + "edge d e 1;");
         Kit.due("25: not joined", one.mate(0), ShareGraph.NONE);
         Kit.due("25: d and e", one.mate(4), 3);
@@ -216,6 +218,19 @@ public final class GroupsTest {
         Kit.due("29: debts now, and behind the moves of a and c",
             h.debts() * 100 + h.debtsIf(0, 1) * 10 + h.debtsIf(2, 1), 443);
         Kit.due("29: c lowers them", h.nextStep(), 21);
+        ShareGraph one = Kit.read("vertex a 1;vertex b 1;vertex c 1;edge a b 1;edge b c 2;slack 9;");
+        one.move(0, 1);
+        Kit.due("29: a gain of 1", one.nextStep(), 0);
+        ShareGraph none = Kit.read("vertex a 1;vertex b 1;vertex c 1;edge a b 1;edge b c 1;slack 9;parts 3;");
+        none.move(0, 1);
+        none.move(2, 2);
+        none.move(1, 1);
+        none.move(0, 0);
+        none.move(1, 0);
+        none.move(2, 1);
+        Kit.due("29: a gain of 1, of c to b", none.nextStep(), 20);
+        ShareGraph zero = Kit.read("vertex a 1;vertex b 1;slack 9;");
+        Kit.due("29: gains of 0", zero.nextStep(), ShareGraph.NONE);
         ShareGraph only = Kit.read("vertex a 9;vertex b 1;vertex c 1;edge b c 3;parts 3;");
         only.move(1, 1);
         only.move(2, 2);
@@ -249,6 +264,7 @@ public final class GroupsTest {
             + "slack 9;");
         Kit.run(level, "shrink;credit 99;move 1 1;");
         Kit.due("31: of the groups of the level", level.bestCut(), 0);
+        Kit.due("31: an edge told from behind", Kit.read("vertex a 5;vertex b 5;edge b a 5;").bestCut(), 5);
         Kit.due("31: asking moves nothing", Kit.parts(level), "0011");
     }
 

@@ -10,6 +10,7 @@ public final class PartsTest {
         promise19();
         promise20();
         promise21();
+        fresh();
         Kit.end("PartsTest");
     }
 
@@ -17,6 +18,25 @@ public final class PartsTest {
         ShareGraph g = Kit.read(Kit.SQUARE);
         g.move(2, 1);
         return g;
+    }
+
+    /** Each answer is that of the present state, also if the call before was about another one. */
+    private static void fresh() {
+        ShareGraph g = Kit.read("vertex a 5;vertex b 6;vertex c 2;edge a b 3;edge b c 1;parts 3;credit 99;");
+        g.move(0, 2);
+        g.move(2, 2);
+        Kit.Call[] asked = {() -> g.part(2, 0), () -> g.part(0, 1), () -> g.part(2, 2), () -> g.part(2, 3),
+            () -> g.part(0, 4), g::cut, g::debts, g::border, g::heaviest, () -> (long) (g.imbalance() * 13.0),
+            () -> g.group(0, 2), () -> g.gain(0, 0), () -> g.whyNotMove(0, 2), () -> g.debtsIf(1, 1), g::nextStep,
+            g::bestCut, () -> g.mate(0)};
+        long[] due = {7, 1, 5, 2, 4, 4, 3, 7, 2, 21, 2, 3, 1, 3, 1, 4, -1};
+        for (int i = 0; i < asked.length; i++) {
+            g.stepsToEnd(1);
+            Kit.due("a call behind stepsToEnd, " + i, asked[i].make(), due[i]);
+            g.move(1, 1);
+            g.undo();
+            Kit.due("a call behind undo, " + i, asked[i].make(), due[i]);
+        }
     }
 
     private static void promise14() {

@@ -1,6 +1,7 @@
 import java.lang.reflect.InvocationTargetException;
 import java.lang.reflect.Method;
 import java.util.ArrayList;
+import java.util.Collections;
 import java.util.HashMap;
 import java.util.List;
 import java.util.Map;
@@ -21,6 +22,7 @@ public final class RandomRunsTest {
     private final Model model = new Model();
     private final List<String> told = new ArrayList<>();
     private final String where;
+    private final List<Question> questions = new ArrayList<>();
     private List<String> names = new ArrayList<>();
 
     private RandomRunsTest(int seed) {
@@ -125,58 +127,75 @@ public final class RandomRunsTest {
 
     private void look() {
         for (int what = -1; what <= 12; what++) {
-            call("setting", what);
+            ask("setting", what);
         }
         for (int what = -1; what <= 3; what++) {
-            call("error", what);
+            ask("error", what);
         }
         for (String name : new String[] {"leastFlow", "cut", "debts", "border", "heaviest", "cutShare", "imbalance",
             "whyNotShrink", "nextStep", "events"}) {
-            call(name);
+            ask(name);
         }
         if (random.nextInt(6) == 0) {
-            call("bestDebts");
-            call("bestCut");
+            ask("bestDebts");
+            ask("bestCut");
         }
-        call("stepsToEnd", some(20));
-        call("cutBehind", some(20));
+        ask("stepsToEnd", some(20));
+        ask("cutBehind", some(20));
         lookAtVertices();
         lookAtGroups();
         for (int i = 0; i <= model.events(); i++) {
             for (int what = 0; what < 4; what++) {
-                call("event", i, what);
+                ask("event", i, what);
             }
         }
-        call("event", some(3), some(5));
-        call("edge", some(model.setting(1)), some(5));
+        ask("event", some(3), some(5));
+        ask("edge", some(model.setting(1)), some(5));
+        askAll();
         int length = Integer.parseInt(call("report"));
         for (int i = -1; i <= length; i++) {
             call("reportByte", i);
         }
     }
 
+    private record Question(String name, int[] args) {
+    }
+
+    private void ask(String name, int... args) {
+        questions.add(new Question(name, args));
+    }
+
+    /** In any order, so that no answer leans on what the call before has left. */
+    private void askAll() {
+        Collections.shuffle(questions, random);
+        for (Question q : questions) {
+            call(q.name, q.args);
+        }
+        questions.clear();
+    }
+
     private void lookAtVertices() {
         int vertices = model.setting(0);
         for (int v = -1; v <= vertices; v++) {
-            call("weight", v);
-            call("partOf", v);
-            call("groupOf", v);
-            call("between", v, some(vertices));
+            ask("weight", v);
+            ask("partOf", v);
+            ask("groupOf", v);
+            ask("between", v, some(vertices));
         }
         for (int i = 0; i < 2; i++) {
             int v = some(vertices);
             int w = some(vertices);
-            call("flow", v, w);
-            call("side", v, w);
+            ask("flow", v, w);
+            ask("side", v, w);
         }
         for (int e = 0; e <= model.setting(1); e++) {
             for (int what = 0; what < 4; what++) {
-                call("edge", e, what);
+                ask("edge", e, what);
             }
         }
         for (int p = -1; p <= model.setting(2); p++) {
             for (int what = -1; what <= 5; what++) {
-                call("part", p, what);
+                ask("part", p, what);
             }
         }
     }
@@ -184,19 +203,19 @@ public final class RandomRunsTest {
     private void lookAtGroups() {
         int groups = model.setting(9);
         for (int g = 0; g <= groups; g++) {
-            call("mate", g);
+            ask("mate", g);
             for (int what = 0; what <= 4; what++) {
-                call("group", g, what);
+                ask("group", g, what);
             }
             for (int p = 0; p <= model.setting(2); p++) {
-                call("gain", g, p);
-                call("whyNotMove", g, p);
-                call("debtsIf", g, p);
+                ask("gain", g, p);
+                ask("whyNotMove", g, p);
+                ask("debtsIf", g, p);
             }
         }
-        call("group", some(groups), some(5));
-        call("mate", some(groups));
-        call("gain", some(groups), some(4));
+        ask("group", some(groups), some(5));
+        ask("mate", some(groups));
+        ask("gain", some(groups), some(4));
     }
 
     // ---- texts and scripts

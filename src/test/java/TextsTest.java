@@ -223,6 +223,12 @@ public final class TextsTest {
         Kit.due("4: the report stays", g.reportByte(3), 'a');
         g.restore();
         Kit.due("4: what was saved stays", Kit.parts(g), "0011");
+        Kit.feed(g, "vertex w 1;vertex x 1;vertex y 1;vertex z 1;parts 4;");
+        g.readText();
+        Kit.due("4: all in part 0", Kit.parts(g), "0000");
+        Kit.feed(g, "");
+        g.readText();
+        Kit.due("4: nothing of the text before", Kit.state(g), Kit.state(new ShareGraph()));
     }
 
     private static void ran(String script, int done, String parts, int credit) {
@@ -295,6 +301,9 @@ public final class TextsTest {
         Kit.due("5: undone as a whole", g.undo(), 2);
         Kit.due("5: the credit", g.setting(4), 0);
         Kit.fails("5: the buffer is empty", Kit.ARGUMENT, () -> g.truncate(1));
+        for (int i = 0; i < 3; i++) {
+            Kit.due("5: the commands of each script are counted anew", Kit.run(g, "credit 1;".repeat(20)), 20);
+        }
     }
 
     private static void scriptFault(String script, String error) {
