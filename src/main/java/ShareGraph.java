@@ -32,6 +32,9 @@ public final class ShareGraph {
     /** Stands far above the turns that any loop needs, so that each loop ends by its own lines. */
     private static final int MOST_TURNS = 1000000;
 
+    /** More than any sum of weights or debts, which 14 vertices and 40 edges of at most 99 keep below 4000. */
+    private static final int ABOVE_ALL = 1000000;
+
     private static final int WRONG_TOKEN = 1;
     private static final int WRONG_NUMBER = 2;
     private static final int WRONG_NAME = 3;
@@ -1115,8 +1118,8 @@ public final class ShareGraph {
                 if (tokens.kind == Tokens.END) {
                     return tokens.depth == 0 || tokens.fail(WRONG_TOKEN);
                 }
-                boolean isRead = tokens.kind == Tokens.CLOSE ? readClose(tokens, target) : readCommand(tokens, target, graph);
-                if (!isRead) {
+                boolean isClose = tokens.kind == Tokens.CLOSE;
+                if (!(isClose ? readClose(tokens, target) : readCommand(tokens, target, graph))) {
                     return false;
                 }
             }
@@ -1693,12 +1696,12 @@ public final class ShareGraph {
 
         void search(Measures measures, Pairs pairs) {
             Arrays.fill(tried, 0);
-            leastDebts = Integer.MAX_VALUE;
-            leastCut = Integer.MAX_VALUE;
+            leastDebts = ABOVE_ALL;
+            leastCut = ABOVE_ALL;
             boolean isMore = true;
             for (int turn = 0; isMore && turn < MOST_TURNS; turn++) {
                 int debts = triedDebts(measures);
-                int cutWeight = debts > leastDebts ? Integer.MAX_VALUE : triedCut(measures.groups, pairs);
+                int cutWeight = debts > leastDebts ? ABOVE_ALL : triedCut(measures.groups, pairs);
                 if (debts < leastDebts || cutWeight < leastCut) {
                     leastDebts = debts;
                     leastCut = cutWeight;
@@ -1805,7 +1808,7 @@ public final class ShareGraph {
         }
 
         private int useWay(int from, int to) {
-            int room = Integer.MAX_VALUE;
+            int room = ABOVE_ALL;
             int vertex = to;
             for (int i = 0; i < MOST_VERTICES && vertex != from; i++) {
                 room = Math.min(room, at(rooms, at(before, vertex) * MOST_VERTICES + vertex));

@@ -161,7 +161,7 @@ public final class FaceTest {
             "\\bpackage\\b", "\\bprotected\\b", "\\bstatic \\{", "\\bSystem\\.(?!arraycopy)", "Exact\\(", "\\bvar\\b",
             "\\b(Random|Thread|Scanner|Map|HashMap|Set|Object|Float|Double|Boolean|Character|Byte|Short)\\b",
             "\"\\s*\\+", "\\+\\s*\"", "\\bimport (?!java\\.util\\.Arrays;)", "\\bArrays\\.(?!fill\\(|copyOf\\(|copyOfRange\\()",
-            "\\bMath\\.(?!min\\(|max\\(|abs\\()", "\\bInteger\\.(?!bitCount\\(|MAX_VALUE|compare\\()", "[^\\x00-\\x7f]"};
+            "\\bMath\\.(?!min\\(|max\\(|abs\\()", "\\bInteger\\.(?!bitCount\\()", "[^\\x00-\\x7f]"};
         for (String pattern : banned) {
             Matcher m = Pattern.compile(pattern).matcher(bare);
             Kit.due("the program holds " + pattern, m.find() ? m.group() : "nothing", "nothing");

@@ -192,7 +192,21 @@ public final class TextsTest {
         return text.toString();
     }
 
+    /** What was cut off stays nothing, though it was in the buffer. */
+    private static void promise4Truncated(String text, int length, String error) {
+        ShareGraph g = new ShareGraph();
+        Kit.feed(g, text);
+        g.truncate(length);
+        Kit.fails("4: cut off " + text, Kit.ARGUMENT, g::readText);
+        Kit.due("4: error of the rest of " + text, Kit.errorOf(g), error);
+    }
+
     private static void promise4Limits() {
+        promise4Truncated("vertex a 12;", 10, "1 10 0");
+        promise4Truncated("vertex abc 1;", 8, "1 8 0");
+        promise4Truncated("vertex     a 1;", 8, "1 8 0");
+        promise4Truncated("vertex a 1;", 10, "1 10 0");
+
         textFault(vertices(14), "none");
         textFault(vertices(15), "6 154 0");
         textFault(vertices(14) + "vertex a 1;", "6 154 0");
