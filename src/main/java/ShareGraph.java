@@ -1286,7 +1286,7 @@ public final class ShareGraph {
         }
 
         void addVertex(long name, int weight) {
-            if (vertices < names.length) {
+            if (vertices >= 0 && vertices < names.length) {
                 names[vertices] = name;
                 put(weights, vertices, weight);
                 vertexSum += weight;

@@ -35,8 +35,8 @@ public final class EventsTest {
         Kit.due("35: the latest one", Kit.event(g, 0), "0 0 1 12");
         Kit.due("35: the one before", Kit.event(g, 1), "2 0 1 5");
         Kit.refuses("35: event 2", Kit.INDEX, g, () -> g.event(2, 0));
-        Kit.refuses("35: event -1", Kit.INDEX, g, () -> g.event(-1, 4));
-        Kit.refuses("35: both", Kit.INDEX, g, () -> g.event(2, 4));
+        Kit.fails("35: event -1", Kit.INDEX, () -> g.event(-1, 4));
+        Kit.fails("35: both", Kit.INDEX, () -> g.event(2, 4));
         Kit.refuses("35: what 4", Kit.ARGUMENT, g, () -> g.event(1, 4));
         Kit.refuses("35: what -1", Kit.ARGUMENT, g, () -> g.event(0, -1));
         g.move(2, 0);
@@ -44,7 +44,7 @@ public final class EventsTest {
             g.move(1, 1 - i % 2);
         }
         Kit.due("35: the oldest one of 30", Kit.event(g, 29), "2 1 0 7");
-        Kit.refuses("35: event 30", Kit.INDEX, g, () -> g.event(30, 0));
+        Kit.fails("35: event 30", Kit.INDEX, () -> g.event(30, 0));
         g.move(1, 0);
         Kit.due("35: it goes", Kit.event(g, 29), "1 0 1 3");
         g.undo();

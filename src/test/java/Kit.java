@@ -20,6 +20,28 @@ final class Kit {
     private Kit() {
     }
 
+    /** Vertices a, b, c .. of weight 1. */
+    static String vertices(int count) {
+        StringBuilder text = new StringBuilder();
+        for (int i = 0; i < count; i++) {
+            text.append("vertex ").append((char) ('a' + i)).append(" 1;");
+        }
+        return text.toString();
+    }
+
+    /** Edges of weight 1 between the first ones of 14 vertices: a b, a c .. a n, b c .. */
+    static String edges(int count) {
+        StringBuilder text = new StringBuilder();
+        int made = 0;
+        for (int v = 0; v < 14; v++) {
+            for (int w = v + 1; w < 14 && made < count; w++) {
+                text.append("edge ").append((char) ('a' + v)).append(' ').append((char) ('a' + w)).append(" 1;");
+                made++;
+            }
+        }
+        return text.toString();
+    }
+
     static int[] words(String text) {
         byte[] bytes = text.getBytes(StandardCharsets.ISO_8859_1);
         int[] words = new int[(bytes.length + 19) / 20 * 5];
@@ -92,7 +114,8 @@ final class Kit {
 
     static String parts(ShareGraph graph) {
         StringBuilder text = new StringBuilder();
-        for (int vertex = 0; vertex < graph.setting(0); vertex++) {
+        int vertices = graph.setting(0);
+        for (int vertex = 0; vertex < vertices; vertex++) {
             text.append(graph.partOf(vertex));
         }
         return text.toString();
@@ -100,7 +123,8 @@ final class Kit {
 
     static String groups(ShareGraph graph) {
         StringBuilder text = new StringBuilder();
-        for (int vertex = 0; vertex < graph.setting(0); vertex++) {
+        int vertices = graph.setting(0);
+        for (int vertex = 0; vertex < vertices; vertex++) {
             text.append(graph.groupOf(vertex));
         }
         return text.toString();
@@ -113,10 +137,12 @@ final class Kit {
             text.append(graph.setting(what)).append(' ');
         }
         text.append(parts(graph)).append(' ').append(groups(graph)).append(' ').append(graph.cut());
-        for (int i = 0; i < graph.events(); i++) {
+        int events = graph.events();
+        for (int i = 0; i < events; i++) {
             text.append(", ").append(event(graph, i));
         }
-        for (int edge = 0; edge < graph.setting(1); edge++) {
+        int edges = graph.setting(1);
+        for (int edge = 0; edge < edges; edge++) {
             text.append(", ").append(graph.edge(edge, 0)).append(' ').append(graph.edge(edge, 1));
             text.append(' ').append(graph.edge(edge, 2));
         }

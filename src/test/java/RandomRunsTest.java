@@ -9,8 +9,10 @@ import java.util.Random;
 
 /** Runs of calls by seeds that are written here: ShareGraph must answer each call as the plain model does. */
 public final class RandomRunsTest {
-    private static final int RUNS = 900;
-    private static final int CALLS = 60;
+    private static final int RUNS = 4000;
+    /** What an object answers behind so many calls is free. */
+    private static final int MOST_CALLS = 512;
+    private static final int QUESTIONS = 45;
     private static final String[] NAMES = {"a", "b", "c", "d", "e", "f", "g", "h", "i", "j", "vertex", "edge",
         "parts", "abcdefgh", "zzzzzzzz", "az"};
     private static final int[] ODD = {-1, Integer.MIN_VALUE, Integer.MAX_VALUE, 14, 31, 32, 200, 201, 99, 100, 1000};
@@ -24,6 +26,7 @@ public final class RandomRunsTest {
     private final String where;
     private final List<Question> questions = new ArrayList<>();
     private List<String> names = new ArrayList<>();
+    private int calls = 0;
 
     private RandomRunsTest(int seed) {
         random = new Random(seed);
@@ -50,19 +53,27 @@ public final class RandomRunsTest {
         if (random.nextInt(8) != 0) {
             readText(0);
         }
-        for (int i = 0; i < CALLS; i++) {
+        while (!isOver()) {
             change();
-            if (i % 6 == 0) {
+            if (random.nextInt(6) == 0) {
                 look();
             }
         }
-        look();
+    }
+
+    private boolean isOver() {
+        return calls >= MOST_CALLS;
     }
 
     // ---- the calls
 
+    /** Nothing is called any more when the run is over. */
     private String call(String name, int... args) {
+        if (isOver()) {
+            return "0";
+        }
         asked++;
+        calls++;
         Object[] boxed = new Object[args.length];
         StringBuilder text = new StringBuilder(name).append('(');
         for (int i = 0; i < args.length; i++) {
@@ -151,10 +162,12 @@ public final class RandomRunsTest {
         }
         ask("event", some(3), some(5));
         ask("edge", some(model.setting(1)), some(5));
-        askAll();
-        int length = Integer.parseInt(call("report"));
-        for (int i = -1; i <= length; i++) {
-            call("reportByte", i);
+        askSome();
+        if (random.nextInt(3) == 0) {
+            int length = Integer.parseInt(call("report"));
+            for (int i = -1; i <= length; i++) {
+                call("reportByte", i);
+            }
         }
     }
 
@@ -166,10 +179,10 @@ public final class RandomRunsTest {
     }
 
     /** In any order, so that no answer leans on what the call before has left. */
-    private void askAll() {
+    private void askSome() {
         Collections.shuffle(questions, random);
-        for (Question q : questions) {
-            call(q.name, q.args);
+        for (int i = 0; i < Math.min(QUESTIONS, questions.size()); i++) {
+            call(questions.get(i).name, questions.get(i).args);
         }
         questions.clear();
     }
@@ -234,8 +247,7 @@ public final class RandomRunsTest {
         if (random.nextInt(4) < spoiled) {
             text = spoil(text);
         }
-        told.clear();
-        told.add("# from here on the text is the first one: " + text);
+        told.add("# " + text);
         feed(text);
         if (call("readText").startsWith("throws")) {
             names = before;

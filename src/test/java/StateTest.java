@@ -5,6 +5,7 @@ public final class StateTest {
         promise45();
         promise46();
         promise46Kinds();
+        promise46NotKept();
         promise46Keeps();
         promise47();
         promise48();
@@ -80,42 +81,43 @@ public final class StateTest {
         Kit.due("46: one more", g.undo(), 0);
     }
 
-    private static void undone(String what, ShareGraph g, Kit.Call call) {
+    private static void undone(String what, String script, Twins.On call) {
+        ShareGraph g = Kit.read(Kit.SQUARE);
+        Kit.run(g, script);
         String before = Kit.state(g);
-        int left = g.setting(10);
-        call.make();
-        Kit.due("46: " + what + " can be undone", g.setting(10), left + 1);
-        Kit.due("46: " + what + " is undone", g.undo(), left);
+        call.make(g);
+        Kit.due("46: " + what + " can be undone", g.setting(10), 2);
+        Kit.due("46: " + what + " is undone", g.undo(), 1);
         Kit.due("46: all is as before " + what, Kit.state(g), before);
     }
 
     private static void promise46Kinds() {
+        undone("shrink", "", ShareGraph::shrink);
+        undone("grow", "shrink;move 1 1;", ShareGraph::grow);
+        undone("move", "", g -> g.move(0, 1));
+        undone("step", "", ShareGraph::step);
+        undone("steps", "", g -> g.steps(5));
+        undone("placeBest", "", ShareGraph::placeBest);
+        undone("placeApart", "", g -> g.placeApart(2, 0));
+        undone("setCredit", "", g -> g.setCredit(3));
+        undone("runScript", "", g -> Kit.run(g, "shrink;move 1 1;credit 9;grow;step;"));
+        undone("an empty script", "", g -> Kit.run(g, ""));
+        undone("a script without a command that can be done", "", g -> Kit.run(g, "grow;"));
+        undone("steps of none", "best;", g -> g.steps(5));
+        undone("placeBest of none", "best;", ShareGraph::placeBest);
+        undone("placeApart of none", "apart a c;", g -> g.placeApart(0, 2));
+        undone("setCredit to the same", "credit 7;", g -> g.setCredit(7));
+    }
+
+    private static void promise46NotKept() {
         ShareGraph g = Kit.read(Kit.SQUARE);
-        undone("shrink", g, g::shrink);
-        undone("move", g, () -> g.move(0, 1));
-        undone("step", g, g::step);
-        undone("steps", g, () -> g.steps(5));
-        undone("placeBest", g, g::placeBest);
-        undone("placeApart", g, () -> g.placeApart(2, 0));
-        undone("setCredit", g, () -> g.setCredit(3));
-        undone("runScript", g, () -> Kit.run(g, "shrink;move 1 1;credit 9;grow;step;"));
-        undone("an empty script", g, () -> Kit.run(g, ""));
-        undone("a script without a command that can be done", g, () -> Kit.run(g, "grow;"));
-        g.shrink();
-        g.move(1, 1);
-        undone("grow", g, g::grow);
-        undone("steps of none", g, () -> g.steps(5));
-        undone("placeBest of none", g, g::placeBest);
-        g.grow();
-        undone("placeApart of none", g, () -> g.placeApart(0, 2));
-        undone("setCredit to the same", g, () -> g.setCredit(0));
-        int kept = g.setting(10);
-        g.step();
+        g.placeBest();
+        Kit.due("46: no step is left", g.step(), ShareGraph.NONE);
         Kit.fails("46: a move that is refused", Kit.STATE, () -> g.move(0, 0));
         Kit.fails("46: a credit that is refused", Kit.ARGUMENT, () -> g.setCredit(100));
         g.report();
         g.save();
-        Kit.due("46: these are not kept", g.setting(10), kept);
+        Kit.due("46: these are not kept", g.setting(10), 1);
     }
 
     private static void promise46Keeps() {

@@ -172,26 +172,6 @@ public final class TextsTest {
         textFault("parts 9;parts $", "2 6 0");
     }
 
-    private static String vertices(int count) {
-        StringBuilder text = new StringBuilder();
-        for (int i = 0; i < count; i++) {
-            text.append("vertex ").append((char) ('a' + i)).append(" 1;");
-        }
-        return text.toString();
-    }
-
-    private static String edges(int count) {
-        StringBuilder text = new StringBuilder();
-        int made = 0;
-        for (int v = 0; v < 14; v++) {
-            for (int w = v + 1; w < 14 && made < count; w++) {
-                text.append("edge ").append((char) ('a' + v)).append(' ').append((char) ('a' + w)).append(" 1;");
-                made++;
-            }
-        }
-        return text.toString();
-    }
-
     /** What was cut off stays nothing, though it was in the buffer. */
     private static void promise4Truncated(String text, int length, String error) {
         ShareGraph g = new ShareGraph();
@@ -207,13 +187,13 @@ public final class TextsTest {
         promise4Truncated("vertex     a 1;", 8, "1 8 0");
         promise4Truncated("vertex a 1;", 10, "1 10 0");
 
-        textFault(vertices(14), "none");
-        textFault(vertices(15), "6 154 0");
-        textFault(vertices(14) + "vertex a 1;", "6 154 0");
-        textFault(vertices(14) + edges(40), "none");
-        textFault(vertices(14) + edges(41), "6 594 0");
-        textFault(vertices(14) + edges(40) + "edge a b 1;", "6 594 0");
-        Kit.due("4: 14 vertices", Kit.read(vertices(14) + edges(40)).setting(1), 40);
+        textFault(Kit.vertices(14), "none");
+        textFault(Kit.vertices(15), "6 154 0");
+        textFault(Kit.vertices(14) + "vertex a 1;", "6 154 0");
+        textFault(Kit.vertices(14) + Kit.edges(40), "none");
+        textFault(Kit.vertices(14) + Kit.edges(41), "6 594 0");
+        textFault(Kit.vertices(14) + Kit.edges(40) + "edge a b 1;", "6 594 0");
+        Kit.due("4: 14 vertices", Kit.read(Kit.vertices(14) + Kit.edges(40)).setting(1), 40);
     }
 
     private static void promise4Replaces() {
@@ -292,7 +272,7 @@ public final class TextsTest {
         ran("repeat 19(credit 1;credit 2;);credit 4;credit 5;", 40, "0000", 5);
         ran("repeat 19(credit 1;credit 2;);credit 4;credit 5;credit 6;", 40, "0000", 5);
         ran("repeat 13(repeat 3(credit 1;););credit 4;credit 5;", 40, "0000", 4);
-        ShareGraph g = Kit.read(vertices(8));
+        ShareGraph g = Kit.read(Kit.vertices(8));
         Kit.due("5: best with 8 groups", Kit.run(g, "credit 1;best;credit 2;"), 1);
         ShareGraph three = Kit.read(Kit.SQUARE.replace("parts 2", "parts 3"));
         Kit.due("5: apart with 3 parts", Kit.run(three, "credit 1;apart a b;"), 1);
