@@ -1,7 +1,8 @@
 /** Promises 4, 46 and 48: behind a text, undo or restore each question is answered as if nothing had been before. */
 public final class AnswersTest {
-    private static final String LARGE = Kit.vertices(14).replace(" 1;", " 7;") + Kit.edges(40).replace(" 1;", " 5;")
-        + "parts 4;slack 9;credit 99;";
+    /** Its third edge is one between two vertices of the small text, which has but two edges, and not this one. */
+    private static final String LARGE = Kit.vertices(14).replace(" 1;", " 7;") + "edge b n 5;edge a n 5;edge a b 5;"
+        + "edge a c 5;edge c b 5;edge c d 5;edge d m 5;edge k l 5;parts 4;slack 9;credit 99;";
     private static final String SMALL = "vertex x 2;vertex y 3;vertex z 4;edge y z 3;edge x z 1;parts 3;slack 2;";
 
     public static void main(String[] args) {

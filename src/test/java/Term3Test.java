@@ -80,19 +80,22 @@ public final class Term3Test {
 
     /** Promise 22: the sum of what joins it to all other groups, in any part. */
     private static void joins() {
-        ShareGraph g = Kit.read(Kit.vertices(4) + "edge a b 1;edge c a 10;edge b c 30;parts 3;credit 99;slack 9;");
         int[] due = {11, 31, 40, 0};
-        for (int group = 0; group < 4; group++) {
-            Kit.due("promise 22: joins of " + group, g.group(group, 3), due[group]);
+        for (int parts = 2; parts <= 4; parts++) {
+            ShareGraph g = Kit.read(Kit.vertices(4) + "edge a b 1;edge c a 10;edge b c 30;credit 99;slack 9;parts "
+                + parts + ";");
+            for (int group = 0; group < 4; group++) {
+                Kit.due("promise 22: joins of " + group, g.group(group, 3), due[group]);
+            }
+            g.move(0, parts - 1);
+            g.move(3, 1);
+            for (int group = 0; group < 4; group++) {
+                Kit.due("promise 22: joins of " + group + " in other parts", g.group(group, 3), due[group]);
+            }
+            Kit.due("promise 22: part of 0", g.group(0, 2), parts - 1);
+            Kit.due("promise 22: part of 2", g.group(2, 2), 0);
+            Kit.due("promise 22: part of 3", g.group(3, 2), 1);
         }
-        g.move(0, 2);
-        g.move(1, 1);
-        for (int group = 0; group < 4; group++) {
-            Kit.due("promise 22: joins of " + group + " in other parts", g.group(group, 3), due[group]);
-        }
-        Kit.due("promise 22: part of 0", g.group(0, 2), 2);
-        Kit.due("promise 22: part of 1", g.group(1, 2), 1);
-        Kit.due("promise 22: part of 2", g.group(2, 2), 0);
     }
 
     /** Two groups are joined by the sum of the weights of all edges between them; edges within are nothing to it. */

@@ -37,6 +37,7 @@ public final class Term4Test {
         bestCutSecond();
         bestFirstOfSeveral();
         bestOfLevels();
+        bestOfFewerThanBefore();
         bestOfFew();
         placeBestMoves();
         Kit.end("Term4Test");
@@ -518,6 +519,24 @@ public final class Term4Test {
         Kit.due("promise 30: a and b are 5 of a limit of 6", wide.bestDebts() * 10 + wide.bestCut(), 0);
         Kit.due("promise 41: c and d", wide.placeBest(), 1);
         Kit.due("term 4: a b d, c", Kit.parts(wide), "0010");
+    }
+
+    /** Of fewer groups than the time before: those that are no groups any more do not change their part. */
+    private static void bestOfFewerThanBefore() {
+        ShareGraph g = Kit.read(Kit.vertices(7) + "edge a g 2;edge b f 1;slack 2;credit 99;");
+        Kit.due("promise 41: 7 groups", g.placeBest(), 1);
+        Kit.run(g, "apart e d;");
+        Kit.due("promise 36: 5 groups", g.shrink(), 5);
+        int events = g.events();
+        String before = Kit.parts(g);
+        int changed = g.placeBest();
+        int due = 0;
+        for (int group = 0; group < 5; group++) {
+            due += before.charAt(Integer.numberOfTrailingZeros(g.group(group, 0))) - '0' == g.group(group, 2) ? 0 : 1;
+        }
+        Kit.due("promise 41: as many as have another part now", changed, due);
+        Kit.due("term 6: as many events", g.events() - events, due);
+        Kit.due("promise 41: again", g.placeBest(), 0);
     }
 
     private static void bestOfFew() {
