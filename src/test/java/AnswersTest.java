@@ -1,15 +1,21 @@
-/** Promises 4, 46 and 48: behind a text, undo or restore each question is answered as if nothing had been before. */
+/**
+ * Promises 4, 46 and 48: behind a text, one with an error, undo or restore each question is answered as if nothing had
+ * been before.
+ */
 public final class AnswersTest {
     /** Its third edge is one between two vertices of the small text, which has but two edges, and not this one. */
     private static final String LARGE = Kit.vertices(14).replace(" 1;", " 7;") + "edge b n 5;edge a n 5;edge a b 5;"
         + "edge a c 5;edge c b 5;edge c d 5;edge d m 5;edge k l 5;parts 4;slack 9;credit 99;";
-    private static final String SMALL = "vertex x 2;vertex y 3;vertex z 4;edge y z 3;edge x z 1;parts 3;slack 2;";
+    private static final String SMALL = "vertex x 2;vertex y 3;vertex z 4;edge y z 3;edge x z 1;parts 3;slack 3;";
+
+    private static final String CHANGES = "credit 98;move 0 1;move 0 2;move 0 0;steps 9;";
 
     public static void main(String[] args) {
-        for (String script : new String[] {"", "move 2 1;", "shrink;", "shrink;move 1 2;", "move 0 2;move 1 1;credit 3;",
-            "best;", "steps 9;"}) {
+        for (String script : new String[] {"", "move 2 1;", "move 1 1;", "shrink;", "shrink;move 1 2;",
+            "move 0 2;move 1 1;credit 3;", "best;", "steps 9;"}) {
             behindALargeText(script);
             behindNothing(script);
+            behindErrors(script);
             behindUndo(script);
             behindRestore(script);
         }
@@ -69,9 +75,11 @@ public final class AnswersTest {
         text.append(" end ").append(g.stepsToEnd(200)).append(' ').append(g.cutBehind(1)).append(' ').append(g.cutBehind(200));
     }
 
-    private static String due(String script) {
+    private static String due(String... scripts) {
         ShareGraph g = Kit.read(SMALL);
-        Kit.run(g, script);
+        for (String script : scripts) {
+            Kit.run(g, script);
+        }
         return answers(g);
     }
 
@@ -91,6 +99,32 @@ public final class AnswersTest {
         Kit.run(g, script);
         g.readText();
         Kit.due("promise 4: behind an empty text, " + script, answers(g), answers(new ShareGraph()));
+    }
+
+    /** A text that has an error is nothing to the graph, however much of it was read before the error. */
+    private static void behindErrors(String script) {
+        for (String wrong : new String[] {"$", "parts 2;slack 99;credit 99;vertex y 9;$", LARGE + "$"}) {
+            ShareGraph g = Kit.read(SMALL);
+            Kit.run(g, script);
+            Kit.feed(g, wrong);
+            Kit.fails("promise 4: an error", Kit.ARGUMENT, g::readText);
+            Kit.due("promise 4: behind a text with an error, " + script, answers(g), due(script));
+            g.save();
+            Kit.run(g, CHANGES);
+            Kit.due("promise 4: changes behind a text with an error, " + script, answers(g), due(script, CHANGES));
+            g.restore();
+            Kit.due("promise 48: what was saved behind it, " + script, answers(g), due(script));
+            Kit.run(g, "shrink;");
+            Kit.due("promise 36: groups behind a text with an error, " + script, answers(g), due(script, "shrink;"));
+        }
+        ShareGraph two = Kit.read(SMALL.replace("parts 3", "parts 2"));
+        Kit.feed(two, LARGE + "$");
+        Kit.fails("promise 4: an error", Kit.ARGUMENT, two::readText);
+        Kit.due("promise 42: 2 parts as before the text with an error", two.placeApart(0, 2), 2);
+        ShareGraph three = Kit.read(SMALL);
+        Kit.feed(three, "parts 2;$");
+        Kit.fails("promise 4: an error", Kit.ARGUMENT, three::readText);
+        Kit.fails("promise 42: 3 parts as before the text with an error", Kit.STATE, () -> three.placeApart(0, 2));
     }
 
     private static void behindUndo(String script) {

@@ -8,6 +8,7 @@ public final class Term2Test {
         limitOfMost();
         debt();
         sumOfDebts();
+        fewerVerticesThanParts();
         cut();
         cutOfMost();
         cutEdges();
@@ -128,6 +129,20 @@ public final class Term2Test {
         g.move(3, 2);
         Kit.due("promise 17: a part without debts takes none away", g.debts(), 6);
         Kit.due("promise 17: no vertices", new ShareGraph().debts(), 0);
+    }
+
+    /** Parts that cannot all have a vertex. */
+    private static void fewerVerticesThanParts() {
+        for (int part = 0; part < 4; part++) {
+            ShareGraph g = Kit.read("vertex a 9;parts 4;credit 99;");
+            if (part > 0) {
+                g.move(0, part);
+            }
+            Kit.due("promise 17: one vertex in part " + part, g.debts(), 6);
+            Kit.due("promise 15: its debt", g.part(part, 1), 6);
+            Kit.due("promise 19: the heaviest part", g.heaviest(), part);
+            Kit.due("promise 30: the best debts", g.bestDebts(), 6);
+        }
     }
 
     /** The cut is the sum of the weights of all edges whose vertices are in different parts. */
@@ -326,6 +341,10 @@ public final class Term2Test {
         ShareGraph g = Kit.read(Kit.vertices(4) + "edge a b 1;edge c b 1;credit 99;");
         g.move(1, 1);
         Kit.due("promise 7: also by edges that are cut", g.setting(11), 3);
+        for (int weight = 1; weight <= 99; weight++) {
+            ShareGraph heavy = Kit.read("vertex a 1;vertex b " + weight + ";edge a b 1;");
+            Kit.due("promise 7: vertices are counted, not weighed, with " + weight, heavy.setting(11), 2);
+        }
     }
 
     /** Promise 10: 0 if they have none, or are the same. */

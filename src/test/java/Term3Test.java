@@ -7,6 +7,7 @@ public final class Term3Test {
         groupNumbers();
         groupWeights();
         joins();
+        joinsOfFewGroups();
         joinsOfGroups();
         jointParts();
         mergedAlready();
@@ -22,6 +23,7 @@ public final class Term3Test {
         reasonsInOrder();
         mateAtLevel4();
         growsBack();
+        growsBackOfMost();
         growsToLevelZero();
         groupsOfOtherTexts();
         Kit.end("Term3Test");
@@ -95,6 +97,18 @@ public final class Term3Test {
             Kit.due("promise 22: part of 0", g.group(0, 2), parts - 1);
             Kit.due("promise 22: part of 2", g.group(2, 2), 0);
             Kit.due("promise 22: part of 3", g.group(3, 2), 1);
+        }
+    }
+
+    /** Of fewer groups than parts, too. */
+    private static void joinsOfFewGroups() {
+        for (int part = 0; part < 4; part++) {
+            ShareGraph g = Kit.read(Kit.vertices(2) + "edge a b 7;credit 99;parts 4;");
+            if (part > 0) {
+                g.move(1, part);
+            }
+            Kit.due("promise 22: joins of a to b in part " + part, g.group(0, 3), 7);
+            Kit.due("promise 22: joins of b in part " + part + " to a", g.group(1, 3), 7);
         }
     }
 
@@ -315,6 +329,19 @@ public final class Term3Test {
         Kit.due("term 3: a and f", Kit.groups(g), "0123405");
         g.grow();
         Kit.due("term 3: the groups of level 0 stay", Kit.groups(g), "0123456");
+    }
+
+    private static void growsBackOfMost() {
+        ShareGraph g = Kit.read(Kit.vertices(14) + "edge a n 9;edge b m 8;edge c l 7;edge m l 2;edge n k 1;slack 99;");
+        String[] groups = {"012345678910111213", "012345678910210", "01123456780110"};
+        for (int level = 1; level <= 2; level++) {
+            g.shrink();
+            Kit.due("term 3: 14 vertices at level " + level, Kit.groups(g), groups[level]);
+        }
+        for (int level = 1; level >= 0; level--) {
+            g.grow();
+            Kit.due("term 3: 14 vertices at level " + level + " again", Kit.groups(g), groups[level]);
+        }
     }
 
     private static void growsToLevelZero() {
